@@ -981,7 +981,10 @@ public final class DanceCompany {
         static final int OPERATOR = 20000;
         static final int MOST_UNITS = 60;
 
-        private final int[] codes = new int[MOST_RULE_BYTES];
+        // Sixty units, what joins them, and as many nots as 600 bytes can hold.
+        private static final int MOST_CODES = 320;
+
+        private final int[] codes = new int[MOST_CODES];
         private final int[] starts = new int[LINES];
         private final int[] stops = new int[LINES];
         private int length;
