@@ -14,6 +14,7 @@ public final class CastTest {
         inForce();
         cheapest();
         firstOfLike();
+        laterWork();
         longCosts();
         emptyWork();
         covers();
@@ -168,6 +169,19 @@ public final class CastTest {
         due.is("0 and 1 cost as 1 and 0", y.cast(1, 0, 0), 1);
     }
 
+    private static void laterWork() {
+        DanceCompany x = knowing("work a;part b at 0 0 n;work c;part d at 0 0 n;part e at 0 0 n;", 4);
+        Due.rules(x, "cost (0 - body) * part;", 0);
+        due.is("of the work a", x.cast(0, 0, 0), 0);
+        due.is("of the work c", x.cast(1, 0, 0), 2);
+        due.is("of the work c", x.cast(2, 0, 0), 3);
+        due.is("its cost", x.cost(1, 0, 0), -2 - 6);
+        due.is("its covers", x.covers(2, 0, 0), 2);
+        due.is("its fall", x.fall(1, 3, 0, 0), 1);
+        due.is("d stays", x.falls(1, 3, 0, 0), 2);
+        due.is("e by another", x.falls(2, 3, 0, 0), 1);
+    }
+
     private static void longCosts() {
         StringBuilder eight = new StringBuilder("work a;");
         for (int i = 0; i < 8; i++) {
@@ -284,6 +298,12 @@ public final class CastTest {
         due.is("may teach", x.learn(0, 0, 5, 0), 3);
         x.knows(2, 1, 0);
         due.is("2 may not teach", x.learn(1, 1, 9, 0), -1);
+        DanceCompany y = Due.company("work a;part b at 0 0 neswox;part c at 0 0 nes;", 2);
+        y.knows(0, 1, 0);
+        y.knows(1, 0, 5);
+        due.is("0 teaches", y.learn(1, 1, 0, 0), 3);
+        due.is("less what is like b", y.learn(1, 1, 5, 0), 0);
+        due.is("less what is like c", y.learn(0, 0, 5, 0), 3);
     }
 
     private static void wrong() {

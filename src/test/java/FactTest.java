@@ -74,6 +74,8 @@ public final class FactTest {
         due.is("a 201st", x.out(0, 0, 0), -1);
         due.is("a 201st", x.leaves(0, 0), -1);
         due.is("a 201st", x.film(1, 1, 1), -1);
+        due.is("all are asked", x.borne(1, 1, 0), 0);
+        due.is("all are asked", x.asked(0, 0, 0, 0, 0), 999);
         due.is("untold", x.untell(199), true);
         due.is("still 200", x.leaves(0, 0), -1);
         due.is("still 200", x.about(3), 200);
@@ -101,6 +103,14 @@ public final class FactTest {
         due.is("untold at once", x.untell(1), true);
         due.is("it never counts", x.can(0, 0, 3, 7), 0);
         due.is("it never counts", x.can(0, 0, 3, 8), 0);
+        x.knows(0, 0, 3);
+        x.knows(0, 0, 3);
+        Due.works(x, TEXT);
+        x.leaves(0, 999);
+        due.is("none such any more", x.untell(3), false);
+        due.is("none such any more", x.untell(1), false);
+        due.is("forgotten", x.can(0, 0, 3, 7), 0);
+        due.is("told anew", x.untell(0), true);
     }
 
     private static void later() {

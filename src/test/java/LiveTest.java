@@ -57,6 +57,7 @@ public final class LiveTest {
         due.is("as known ahead of all", x.note(1, 3, -1), 8);
         due.is("h, i, j with c", x.note(4, 3, 0), 114);
         due.is("h, i, j are no more than b and c", x.note(3, 0, 0), 3);
+        due.is("one work of one part", Due.company("work a;part b at 0 0 n;", 0).note(1, 0, 0), 1);
         DanceCompany y = Due.company("work a;part b at 0 0 n;part c at 0 0 n;work d;part e at 0 0 n;work f;part g at 0 0 n;", 0);
         due.is("the least number of like ones", y.note(1, 0, 0), 4);
         due.is("two works by two parts", y.note(2, 0, 0), 12);

@@ -629,7 +629,7 @@ final class Model {
         return true;
     }
 
-    private int[] plan(int k) {
+    int[] plan(int k) {
         int n = rehearsals.size();
         List<Set<Integer>> crews = new ArrayList<>();
         for (int[] r : rehearsals) {

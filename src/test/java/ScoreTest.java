@@ -143,6 +143,10 @@ public final class ScoreTest {
         x.reads(1, 0, 4);
         due.is("not by reader 1", x.breaks(1, 1, 1, 1), -1);
         due.is("no parts", x.breaks(2, 0, 1, 1), -1);
+        due.is("the narrowest", x.breaks(1, 0, 1, 20), 1);
+        due.is("the shallowest", x.breaks(1, 0, 20, 1), 1);
+        String late = "work a;part b at 0 0 " + "o".repeat(31) + "w;";
+        due.is("at the last", Due.company(late, 0).breaks(0, 0, 20, 20), 32);
         for (int odd : new int[] {-1, 0, 21, MIN, MAX}) {
             due.is("wide " + odd, x.breaks(0, 0, odd, 5), -1);
             due.is("deep " + odd, x.breaks(0, 0, 5, odd), -1);

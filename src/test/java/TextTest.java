@@ -95,6 +95,8 @@ public final class TextTest {
         due.is("rehearsals anew", x.rehearse(0, 0), 0);
         x.rehearse(0, 0);
         due.is("rooms stay", x.week(0), 2);
+        DanceCompany y = Due.company(TWO, 0);
+        due.is("names are free again", Due.works(y, TWO), 2);
     }
 
     private static void worksFaults() {

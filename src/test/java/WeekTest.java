@@ -1,3 +1,4 @@
+import java.util.Arrays;
 import java.util.Random;
 
 /** Promises 33 to 36: rehearsals, rooms, the week and its hours. */
@@ -157,10 +158,11 @@ public final class WeekTest {
             int rooms = 1 + round % 5;
             x.rooms(rooms);
             m.rooms(rooms);
-            due.is("week, round " + round, x.week(0), m.week(0));
+            int[] want = m.plan(0);
             for (int i = 0; i < many; i++) {
-                due.is("hour " + i + ", round " + round, x.hour(i, 0), m.hour(i, 0));
+                due.is("hour " + i + ", round " + round, x.hour(i, 0), want[i]);
             }
+            due.is("week, round " + round, x.week(0), Arrays.stream(want).distinct().count());
         }
     }
 }
