@@ -1397,8 +1397,9 @@ public final class DanceCompany {
             return daysSince(lastDay[body]);
         }
 
+        // Days are 0 to 999, so that no two are more than NEVER apart.
         private int daysSince(int then) {
-            return then == NONE ? NEVER : Math.min(NEVER, day - then);
+            return then == NONE ? NEVER : day - then;
         }
 
         boolean isFit(int body, int part) {
@@ -1481,14 +1482,16 @@ public final class DanceCompany {
         }
 
         // With the fewest parts just those are noted that some works lack: so works are chosen, not parts.
+        // Later works have later parts, so of like ones the first chosen is the least number.
         int firstNoted(int many) {
             int best = 0;
             int bestLiving = living(0);
             for (int chosen = 1; chosen < 1 << score.works; chosen++) {
                 int bits = missingOf(chosen);
                 int living = living(bits);
+                int fewer = Integer.bitCount(best) - Integer.bitCount(bits);
                 if (Integer.bitCount(bits) <= many
-                        && (living > bestLiving || living == bestLiving && isSmaller(bits, best))) {
+                        && (living > bestLiving || living == bestLiving && fewer > 0)) {
                     best = bits;
                     bestLiving = living;
                 }
@@ -1504,11 +1507,6 @@ public final class DanceCompany {
                 }
             }
             return bits;
-        }
-
-        private static boolean isSmaller(int bits, int other) {
-            int fewer = Integer.bitCount(bits) - Integer.bitCount(other);
-            return fewer < 0 || fewer == 0 && bits < other;
         }
     }
 
@@ -1657,29 +1655,13 @@ public final class DanceCompany {
         }
 
         int plan() {
-            if (many == 0) {
-                return 0;
-            }
-            for (int hours = leastHours(); hours < many; hours++) {
+            for (int hours = 1; hours < many; hours++) {
                 if (fits(0, 0, hours)) {
                     return hours;
                 }
             }
             fits(0, 0, many);
             return many;
-        }
-
-        // No plan is shorter than a body's own rehearsals, nor than the rooms allow.
-        private int leastHours() {
-            int least = roomsOpen < 1 ? many : (many + roomsOpen - 1) / roomsOpen;
-            for (int body = 0; body < MOST_BODIES; body++) {
-                int own = 0;
-                for (int i = 0; i < many; i++) {
-                    own += crew[i] >> body & 1;
-                }
-                least = Math.max(least, own);
-            }
-            return least;
         }
 
         // In the first plan a new hour is always the next one, so no hour behind it is tried.

@@ -6,16 +6,22 @@ final class Due {
     private final String name;
     private int wrong = 0;
     private int asked = 0;
+    private String sentence = "";
 
     Due(String name) {
         this.name = name;
+    }
+
+    /** The words of the document that the answers from here on bear out. */
+    void sentence(String words) {
+        sentence = " <<" + words + ">>";
     }
 
     void is(String call, long got, long want) {
         asked++;
         if (got != want) {
             wrong++;
-            System.out.println(name + ": " + call + " answered " + got + ", due is " + want);
+            System.out.println(name + sentence + ": " + call + " answered " + got + ", due is " + want);
         }
     }
 
