@@ -1600,31 +1600,34 @@ public final class DanceCompany {
         }
 
         private long leastFrom(int seat, int taken) {
+            long[] weight = weights[seat];
             long least = CANNOT;
             for (int body = 0; body < bodies; body++) {
-                least = Math.min(least, weightOf(seat, body, taken));
+                int with = taken | 1 << body;
+                if (with != taken && weight[body] != CANNOT && rest[with] != CANNOT) {
+                    least = Math.min(least, weight[body] + rest[with]);
+                }
             }
             return least;
-        }
-
-        private long weightOf(int seat, int body, int taken) {
-            int bit = 1 << body;
-            if ((taken & bit) != 0 || weights[seat][body] == CANNOT || rest[taken | bit] == CANNOT) {
-                return CANNOT;
-            }
-            return weights[seat][body] + rest[taken | bit];
         }
 
         private void pickFirst() {
             int taken = 0;
             for (int seat = 0; seat < seats; seat++) {
-                int body = 0;
-                while (body < bodies - 1 && weightOf(seat, body, taken) != rest[taken]) {
-                    body++;
-                }
-                chosen[seat] = body;
-                taken |= 1 << body;
+                chosen[seat] = firstOfLeast(seat, taken);
+                taken |= 1 << chosen[seat];
             }
+        }
+
+        private int firstOfLeast(int seat, int taken) {
+            for (int body = 0; body < bodies; body++) {
+                int with = taken | 1 << body;
+                if (with != taken && isWilling(seat, body) && rest[with] != CANNOT
+                        && weights[seat][body] + rest[with] == rest[taken]) {
+                    return body;
+                }
+            }
+            return 0;
         }
     }
 

@@ -227,6 +227,11 @@ public final class EdgeCastTest {
         DanceCompany y = knowing(TWO, 3, new int[] {0, 0}, new int[] {1, 0}, new int[] {1, 1}, new int[] {2, 1});
         due.is("in the cast for another part", y.covers(0, 0, 0), 0);
         due.is("2 covers c", y.covers(1, 0, 0), 1);
+        DanceCompany z = allKnowing(TWO, 10);
+        Due.rules(z, "cost 0-body;", 0);
+        due.is("the first eight cover", z.covers(0, 0, 0), 8);
+        z.leaves(0, 5);
+        due.is("the first is gone", z.covers(0, 5, 0), 7);
         for (int odd : new int[] {2, -1, 12, MIN, MAX}) {
             due.is("part " + odd, y.covers(odd, 0, 0), -1);
         }

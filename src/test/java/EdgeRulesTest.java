@@ -257,8 +257,10 @@ public final class EdgeRulesTest {
         DanceCompany x = alone();
         String sixty = "cost 1" + "+1".repeat(59);
         for (int i = 0; i < 6; i++) {
-            due.is("a fault in the 61st", Due.rules(x, sixty + "+1;", 0), -1);
-            due.is("its place", x.fault(1), sixty.length() + 1);
+            for (int j = 0; j < 3; j++) {
+                due.is("a fault in the 61st", Due.rules(x, sixty + "+1;", 0), -1);
+                due.is("its place", x.fault(1), sixty.length() + 1);
+            }
             due.is("a fault in the depth", Due.rules(x, "may when (((((((1+1*1<1 and (", 0), -1);
             due.is("its place", x.fault(1), 28);
             due.is("a fault behind a number", Due.rules(x, "cost 5 5", 0), -1);
